@@ -26,6 +26,7 @@ public final class PromisesTest {
         all.natureShifts();
         all.natureRefused();
         all.canon();
+        all.canonOfAllWays();
         all.record();
         all.recorded();
         all.known();
@@ -448,6 +449,11 @@ public final class PromisesTest {
         isNature("squares", squares, 64, Gliderwright.TRAVELLER, 1, 0, 1);
         squares.table(0, 1 << 4);
         isNature("squares that stay", squares, 64, Gliderwright.REST, 1, 0, 0);
+        Gliderwright trodden = world(15, full, 96, full);
+        trodden.table(1 << 7, 1 << 2 | 1 << 3 | 1 << 4 | 1 << 5);
+        isNature("one row of three goes on", trodden, 1, Gliderwright.UNKNOWN, -1, -1, -1);
+        trodden.tick(1);
+        isBoard("one row of three went on", trodden, 15, full, 144, full);
         Gliderwright two = placed("glider", 0, 0, 0);
         typed(two, "block").place(8, 8, 0);
         isNature("glider and block, before they meet", two, 4, Gliderwright.UNKNOWN, -1, -1, -1);
@@ -497,6 +503,30 @@ public final class PromisesTest {
         for (int row : new int[] {-1, 16, MIN, MAX}) {
             refusedAndUnchanged("canon " + row, INDEX, world, () -> world.canon(row));
         }
+    }
+
+    /** A hook has eight ways to lie: each of them, at each CELL, must come to the one entry. */
+    private void canonOfAllWays() {
+        int[][] hooks = {{0, 1, 2, 18}, {0, 1, 2, 16}, {16, 17, 18, 0}, {16, 17, 18, 2}, {0, 16, 32, 33},
+            {0, 16, 32, 1}, {1, 17, 33, 0}, {1, 17, 33, 32}};
+        Gliderwright world = world(4, 1, 1, 3);
+        world.record();
+        for (int[] hook : hooks) {
+            for (int shift = 0; shift < 256; shift++) {
+                world.soup(0, 0, 0);
+                for (int cell : hook) {
+                    int row = (cell / 16 + shift / 16) % 16;
+                    world.set(row, world.row(row) | 1 << (cell + shift) % 16);
+                }
+                check.same("hook " + Arrays.toString(hook) + " at " + shift, world.known(), 0);
+            }
+        }
+        world.soup(0, 100, 0);
+        world.record();
+        world.set(9, 65535 - 128);
+        check.same("all but one is not all", world.known(), Gliderwright.NONE);
+        check.same("the hole comes first", world.canon(0), 32767);
+        check.same("and the other rows are full", world.canon(1), 65535);
     }
 
     private static Gliderwright withTwentyEntries() {
