@@ -1,15 +1,7 @@
 import java.util.Arrays;
 
 /** The promises of the document one by one, with answers found by hand. */
-public final class PromisesTest {
-    private static final Class<IllegalArgumentException> ARGUMENT = IllegalArgumentException.class;
-    private static final Class<IllegalStateException> STATE = IllegalStateException.class;
-    private static final Class<IndexOutOfBoundsException> INDEX = IndexOutOfBoundsException.class;
-    private static final int MIN = Integer.MIN_VALUE;
-    private static final int MAX = Integer.MAX_VALUE;
-
-    private final Check check = new Check();
-
+public final class PromisesTest extends Worlds {
     public static void main(String[] args) {
         PromisesTest all = new PromisesTest();
         all.newObject();
@@ -47,65 +39,6 @@ public final class PromisesTest {
 
     // ---- helpers
 
-    private static Gliderwright typed(Gliderwright world, String word) {
-        for (char letter : word.toCharArray()) {
-            world.type(letter);
-        }
-        return world;
-    }
-
-    /** A new object with rows from a first one on, the other rows empty. */
-    private static Gliderwright world(int first, int... rows) {
-        Gliderwright world = new Gliderwright();
-        for (int at = 0; at < rows.length; at++) {
-            world.set((first + at) % 16, rows[at]);
-        }
-        return world;
-    }
-
-    private static Gliderwright placed(String word, int row, int column, int turns) {
-        Gliderwright world = typed(new Gliderwright(), word);
-        world.place(row, column, turns);
-        return world;
-    }
-
-    private static int[] rows(Gliderwright world) {
-        int[] rows = new int[16];
-        for (int row = 0; row < 16; row++) {
-            rows[row] = world.row(row);
-        }
-        return rows;
-    }
-
-    private static String told(Gliderwright world) {
-        return Arrays.toString(rows(world));
-    }
-
-    private static int[] canonRows(Gliderwright world) {
-        int[] rows = new int[16];
-        for (int row = 0; row < 16; row++) {
-            rows[row] = world.canon(row);
-        }
-        return rows;
-    }
-
-    private static int[] lone(int first, int... rows) {
-        int[] all = new int[16];
-        for (int at = 0; at < rows.length; at++) {
-            all[(first + at) % 16] = rows[at];
-        }
-        return all;
-    }
-
-    private void isBoard(String call, Gliderwright world, int first, int... rows) {
-        check.same(call, told(world), Arrays.toString(lone(first, rows)));
-    }
-
-    private static int phaseOf(Gliderwright world) {
-        world.blocks(1, true);
-        return world.blocks(1, false);
-    }
-
     /** The refused call must leave the rows, the PHASE, the MARKS, the CATALOG and the RULE as they are. */
     private void refusedAndUnchanged(String call, Class<? extends RuntimeException> due, Gliderwright world,
             Check.Call made) {
@@ -115,33 +48,8 @@ public final class PromisesTest {
         check.same("what is there behind " + call, after, before);
     }
 
-    /** Whether the CELL in the middle is ALIVE behind a TICK, with some of its NEIGHBOURS ALIVE. */
-    private static int next(Gliderwright world, boolean isAlive, int neighbours) {
-        int[] beside = {0, 0, 0};
-        int left = neighbours;
-        for (int cell = 0; cell < 9; cell++) {
-            if (cell != 4 && left > 0) {
-                beside[cell / 3] |= 1 << 7 + cell % 3;
-                left--;
-            }
-        }
-        for (int row = 0; row < 16; row++) {
-            world.set(row, 0);
-        }
-        world.set(5, beside[0]);
-        world.set(6, beside[1] | (isAlive ? 1 << 8 : 0));
-        world.set(7, beside[2]);
-        world.tick(1);
-        return world.row(6) >> 8 & 1;
-    }
-
     private void isRule(String call, Gliderwright world, String births, String stays) {
-        for (int neighbours = 0; neighbours <= 8; neighbours++) {
-            check.same(call + ", birth by " + neighbours, next(world, false, neighbours),
-                    births.indexOf('0' + neighbours) >= 0 ? 1 : 0);
-            check.same(call + ", stay by " + neighbours, next(world, true, neighbours),
-                    stays.indexOf('0' + neighbours) >= 0 ? 1 : 0);
-        }
+        check.same(call, ruleOf(world), births + "/" + stays);
     }
 
     // ---- promise 1
@@ -226,7 +134,7 @@ public final class PromisesTest {
         typed(stays, "glider").rule();
         isRule("day, behind the word of a pattern", stays, "3678", "34678");
         stays.rule();
-        check.same("day, behind nothing", next(stays, false, 8), 1);
+        isRule("day, behind nothing", stays, "3678", "34678");
         Gliderwright kept = placed("block", 2, 2, 0);
         typed(kept, "maze").rule();
         isBoard("the board behind a rule", kept, 2, 12, 12);
@@ -473,7 +381,7 @@ public final class PromisesTest {
 
     private void isCanon(String call, Gliderwright world, int first, int... rows) {
         String before = told(world);
-        check.same(call, Arrays.toString(canonRows(world)), Arrays.toString(lone(first, rows)));
+        check.same(call, toldCanon(world), Arrays.toString(lone(first, rows)));
         check.same(call + ", the board behind", told(world), before);
     }
 
@@ -848,9 +756,9 @@ public final class PromisesTest {
             check.same("the board and the phase of " + mark, told(world) + phaseOf(world), boards[mark]);
         }
         refusedAndUnchanged("behind the first", STATE, world, world::undo);
-        check.same("the rule stays", next(world, false, 2), 1);
         check.same("the catalog stays", world.recorded(0), 1);
         check.same("what is typed stays", world.type('k'), 5);
+        isRule("the rule stays", world, "2", "");
         Gliderwright later = placed("block", 0, 0, 0);
         later.mark();
         later.set(5, 7);

@@ -45,7 +45,8 @@ public final class SourceTest {
     private static final String[] FORBIDDEN = {"->", "::", "\\btry\\b", "\\bcatch\\b", "\\bfinally\\b", "\\bassert\\b",
         "\\bsynchronized\\b", "\\bdouble\\b", "\\bfloat\\b", "\\bnew (?!Board|Canons|Catalog|Parts|Marks|Rings"
         + "|StringBuilder|int\\[|IllegalArgumentException|IllegalStateException|IndexOutOfBoundsException)",
-        "\"\\s*\\+|\\+\\s*\"", "\\bSystem\\b", "\\bThread\\b", "^package\\b", "\\bwhile\\b", "\\bthrow (?!new )", "\\bthrows [^I]",
+        "\"\\s*\\+|\\+\\s*\"", "\\bSystem\\b", "\\bThread\\b", "^package\\b", "\\bwhile\\b",
+        "\\bthrow (?!new )", "\\bthrows [^I]",
         "\\bimport (?!java\\.util\\.Arrays;)", "\\bextends\\b", "\\bimplements\\b", "\\bString\\.", "[^\\x00-\\x7f]"};
     private static final int LONGEST_METHOD = 60;
 

@@ -38,6 +38,10 @@ final class Check {
         return wrong;
     }
 
+    int compared() {
+        return compared;
+    }
+
     void end() {
         System.out.println(wrong == 0 ? "all " + compared + " answers are as due"
                 : wrong + " of " + compared + " answers are not as due");
