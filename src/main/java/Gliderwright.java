@@ -291,7 +291,7 @@ public final class Gliderwright {
         return value >= least && value <= most;
     }
 
-    /** Where a digit of a number told by whole rows of bits is as the lowest one of the wanted. */
+    /** The places whose bit is as the lowest one of the wanted; the caller cuts off what lies above its own. */
     private static int digit(int bits, int wanted) {
         return (wanted & 1) == 1 ? bits : ~bits;
     }
